@@ -78,6 +78,8 @@ public final class PageTest {
             Checks.looks("wrong " + wrong, desk, Checks.PAGES, 0);
             Checks.looks("wrong " + wrong, desk, Checks.X, 720);
         }
+        Checks.looks("back to size 2", Checks.fed("~&l6a2A"), Checks.SIZE, 2);
+        Checks.looks("back to orientation 0", Checks.fed("~&l1o0O"), Checks.ORIENTATION, 0);
         Checks.looks("a whole part counts", Checks.fed("~&l6.9A"), Checks.SIZE, 6);
         Checks.looks("negative is 0", Checks.fed("~&l3o-2O"), Checks.ORIENTATION, 0);
         Checks.looks("with a plus", Checks.fed("~&l+3O"), Checks.ORIENTATION, 3);
@@ -225,6 +227,9 @@ public final class PageTest {
         Checks.looks("stays at RIGHT", desk, Checks.X, 57600);
         desk = Checks.fed("~&a3l14M\t");
         Checks.looks("from LEFT", desk, Checks.X, 2160 + 5760);
+        desk.move(2160 + 5759, 0);
+        Checks.feed(desk, "\t");
+        Checks.looks("one unit ahead of a stop from LEFT", desk, Checks.X, 2160 + 5760);
         Checks.feed(desk, "\t");
         Checks.looks("at most RIGHT", desk, Checks.X, 10800);
         desk.move(2000, 0);
@@ -387,7 +392,7 @@ public final class PageTest {
         Checks.looks("refused left stays", desk, Checks.LEFT, 3600);
         Checks.looks("refused left leaves X", desk, Checks.X, 0);
         Checks.looks("left negative", Checks.fed("~&a5l-5L"), Checks.LEFT, 0);
-        Checks.looks("left huge", Checks.fed("~&k32767h~&a0L~&a32767L"), Checks.LEFT, 0);
+        Checks.looks("left huge", Checks.fed("~&k32767H~&a32767L"), Checks.LEFT, 0);
         desk = Checks.fed("~&a30c9M");
         Checks.looks("right", desk, Checks.RIGHT, 7200);
         Checks.looks("X at most there", desk, Checks.X, 7200);

@@ -6,6 +6,7 @@ public final class StreamTest {
         escapeAndBadBytes();
         badBytesInFields();
         groups();
+        nothingIsLeftOfTheFieldBefore();
         ends();
         values();
         dataOfW();
@@ -76,13 +77,15 @@ public final class StreamTest {
             Checks.glyphIs(what + ": the field before was done", desk, 0, 2160, 4500, '7', 0);
             Checks.glyphIs(what, desk, 1, 2880, 4500, 'C', 0);
             Checks.looks(what, desk, Checks.UNDER_WAY, 0);
+            Checks.looks(what, desk, Checks.OTHERS, 0);
+            desk = Checks.fed("~&" + bad + "A");
+            Checks.glyphIs(what + " behind the family", desk, 0, 0, 4500, 'A', 0);
         }
         for (String value : new String[] {"1+", "1-", "+-", "++", "1..", "1.2.", ".+", "1.5-", ".."}) {
             PageDesk desk = Checks.fed("~&a" + value + "A");
             Checks.glyphIs("ended by the last of " + value, desk, 0, 0, 4500, 'A', 0);
             Checks.looks("ended by the last of " + value, desk, Checks.OTHERS, 0);
         }
-        Checks.glyphIs("bad byte behind the family", Checks.fed("~&_A"), 0, 0, 4500, 'A', 0);
         Checks.glyphIs("bad byte behind the group", Checks.fed("~&a/A"), 0, 0, 4500, 'A', 0);
     }
 
@@ -100,6 +103,17 @@ public final class StreamTest {
         desk = Checks.fed("~(aaA");
         Checks.looks("group, then an end", desk, Checks.OTHERS, 2);
         Checks.otherIs("group, then an end", desk, '(', 'a', 0, 'A', 0, 0, 0);
+    }
+
+    private static void nothingIsLeftOfTheFieldBefore() {
+        PageDesk desk = Checks.fed("~(s+7.25x3Q");
+        Checks.yes("take", desk.take());
+        Checks.otherIs("no plus, no fraction", desk, '(', 's', 30000, 'Q', 0, 0, 0);
+        desk = Checks.fed("~(s-7.25x3Q");
+        Checks.yes("take", desk.take());
+        Checks.otherIs("no minus", desk, '(', 's', 30000, 'Q', 0, 0, 0);
+        Checks.otherIs("no group", Checks.fed("~&l1X~(3X"), '(', 0, 30000, 'X', 0, 0, 0);
+        Checks.otherIs("none of a broken one", Checks.fed("~(s-7.2_~(3X"), '(', 0, 30000, 'X', 0, 0, 0);
     }
 
     private static void ends() {
@@ -288,6 +302,13 @@ public final class StreamTest {
         Checks.same("with its data", desk.data(0), 0x797A000000000000L);
         Checks.yes("take the last one", desk.take());
         Checks.no("none left", desk.take());
+        for (int i = 0; i < 16; i++) {
+            Checks.feed(desk, "~*b1Wy");
+            Checks.yes("take one with data", desk.take());
+        }
+        Checks.feed(desk, "~*b1X");
+        Checks.otherIs("no data left of others", desk, '*', 'b', 10000, 'X', 0, 0, 0);
+        Checks.same("no data left of others", desk.data(0), 0);
     }
 
     private static void dataStoreGoesRound() {
