@@ -58,6 +58,12 @@ final class Checks {
         }
     }
 
+    static void raw(PageDesk desk, int... bytes) {
+        for (int b : bytes) {
+            yes("feed of one byte", desk.feed(b, 1));
+        }
+    }
+
     static PageDesk fed(String text) {
         PageDesk desk = new PageDesk();
         feed(desk, text);
@@ -66,6 +72,16 @@ final class Checks {
 
     static void looks(String what, PageDesk desk, int which, long want) {
         same(what + ": look(" + which + ")", desk.look(which), want);
+    }
+
+    /** All that both answer is the same, but for how many bytes came. */
+    static void alike(String what, PageDesk got, PageDesk want) {
+        String gotState = Snapshot.withoutBytes(got);
+        String wantState = Snapshot.withoutBytes(want);
+        if (!gotState.equals(wantState)) {
+            wrong++;
+            System.out.println(what + " left" + gotState + "\n  due is" + wantState);
+        }
     }
 
     static void cursor(String what, PageDesk desk, long x, long y) {
@@ -101,6 +117,14 @@ final class Checks {
         for (int w = 0; w < parts.length; w++) {
             same(what + ": page(" + i + ", " + w + ")", desk.page(i, w), parts[w]);
         }
+    }
+
+    /** Sets H to 1, then the margins, then H to 720 again. */
+    static void margins(PageDesk desk, int left, int right) {
+        feed(desk, "~9~&k.0167H~&a" + (right - 1) + "m" + left + "L~&k12H");
+        looks("margin set", desk, LEFT, left);
+        looks("margin set", desk, RIGHT, right);
+        looks("step set", desk, H, 720);
     }
 
     static void finish() {
