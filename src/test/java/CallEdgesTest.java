@@ -159,7 +159,8 @@ public final class CallEdgesTest {
                     Checks.no("nothing in the others", desk.bring(other));
                 }
             }
-            Checks.feed(desk, "~E");
+            // Also over other places where the kept ones stood
+            Checks.feed(desk, "~E~&a77c50R~&f0s0s0S~E");
             Checks.yes("bring", desk.bring(slot));
             Checks.alike("as it was kept", desk, Checks.fed(KEPT));
         }
